@@ -55,7 +55,7 @@ public final class OnePassJudge {
     private final Arrivals arrivals = new Arrivals();
     private final Table table = new Table();
     private final Operator[] operators = new Operator[MOST_OPERATORS];
-    private final Pass pass = new Pass(arrivals, table);
+    private final Pass pass = new Pass();
     private final Comparison comparison = new Comparison();
     private int operatorCount = 0;
     private int failureCount = 0;
@@ -311,12 +311,12 @@ public final class OnePassJudge {
     private boolean judgeOne(Operator o) {
         o.startAgain();
         if (o.kind == READ) {
-            o.end(pass.giveSource(o));
+            o.end(arrivals.giveInTime(o.a, o.given));
         } else {
             Operator p = operatorAt(o.p);
             Operator q = operatorAt(o.q);
             boolean canRun = p != null && q != null && !p.isUndone && !q.isUndone;
-            o.end(canRun && pass.giveFrom(o, p.given, q.given));
+            o.end(canRun && pass.giveFrom(o, p.given, q.given, table));
         }
         failureCount += o.failuresBy(BY_ZERO) + o.failuresBy(BY_INDEX);
         return !o.isUndone;
@@ -363,7 +363,10 @@ public final class OnePassJudge {
             return before;
         }
 
-        /** Rows of one SOURCE stand here by NUMBER, so an order by TIME that moves no equals is the one of READ. */
+        /**
+         * READ; whether the rows had room. Those of one SOURCE stand here by NUMBER, so an order by TIME that
+         * leaves equals as they stand is the one that is due.
+         */
         boolean giveInTime(int source, Rows to) {
             for (int i = 0; i < size; i++) {
                 if (sources[i] == source && !lates[i] && !to.addByTime(times[i], keys[i], values[i])) {
@@ -615,30 +618,19 @@ public final class OnePassJudge {
     }
 
     /**
-     * The definitions of the OPERATORS. Each answers whether the rows had room. They lean on the rows of every
+     * The definitions of the OPERATORS that are of others. Each answers whether the rows had room. They lean on the rows of every
      * OPERATOR rising by TIME: READ, SPANS, JOIN, MEET and FALLS make them so, the others leave them so.
      */
     private static final class Pass {
-        private final Arrivals arrivals;
-        private final Table table;
         private final Span span = new Span();
         private final int[] seen = new int[KEYS];
 
-        Pass(Arrivals arrivals, Table table) {
-            this.arrivals = arrivals;
-            this.table = table;
-        }
-
-        boolean giveSource(Operator o) {
-            return arrivals.giveInTime(o.a, o.given);
-        }
-
-        boolean giveFrom(Operator o, Rows p, Rows q) {
+        boolean giveFrom(Operator o, Rows p, Rows q, Table table) {
             switch (o.kind) {
                 case MAP:
                 case KEEP:
                 case REKEY:
-                    return giveEach(o, p);
+                    return giveEach(o, p, table);
                 case SPANS:
                     return giveSpans(o.given, p, o.a, o.b);
                 case JOIN:
@@ -654,7 +646,7 @@ public final class OnePassJudge {
             }
         }
 
-        private boolean giveEach(Operator o, Rows p) {
+        private static boolean giveEach(Operator o, Rows p, Table table) {
             for (int i = 0; i < p.size(); i++) {
                 int failure = table.failureOf(o.a, p.valueAt(i), o.b);
                 if (failure != NO_FAILURE) {
@@ -696,11 +688,13 @@ public final class OnePassJudge {
         private static boolean giveJoin(Rows to, Rows p, Rows q, int w) {
             int near = 0;
             for (int i = 0; i < p.size(); i++) {
-                while (near < q.size() && q.timeAt(near) < p.timeAt(i) - w) {
+                int time = p.timeAt(i);
+                int key = p.keyAt(i);
+                while (near < q.size() && q.timeAt(near) < time - w) {
                     near++;
                 }
-                for (int j = near; j < q.size() && q.timeAt(j) <= p.timeAt(i) + w; j++) {
-                    if (p.keyAt(i) == q.keyAt(j) && !givePair(to, p, i, q, j)) {
+                for (int j = near; j < q.size() && q.timeAt(j) <= time + w; j++) {
+                    if (q.keyAt(j) == key && !givePair(to, p, i, q, j)) {
                         return false;
                     }
                 }

@@ -21,6 +21,7 @@ public final class OperatorsTest {
         promise8SpansOfSpans();
         promise9JoinRefusals();
         promise9Join();
+        promise9JoinOfTheLeast();
         promise9JoinWithItself();
         promise10Meet();
         promise10UndoneAbove200();
@@ -315,6 +316,22 @@ public final class OperatorsTest {
         Due.is("9 w 1000", x.rows(6), 13);
     }
 
+    private static void promise9JoinOfTheLeast() {
+        OnePassJudge x = with(0, 0, 0, 1, 0, 3, 0, 2, 1, 0, 0, 3, 1, 1000 - 1, 0, 4);
+        x.read(0);
+        x.read(1);
+        x.read(2);
+        x.join(0, 1, 5);
+        x.join(0, 2, 5);
+        x.join(2, 0, 5);
+        x.join(0, 1, 999);
+        Due.is("9 judge()", x.judge(), 7);
+        Due.rows("9 TIME 0, KEY 0", x, 3, 0, 0, 1003, 3, 0, 2003);
+        Due.rows("9 no rows of q", x, 4);
+        Due.rows("9 no rows of p", x, 5);
+        Due.rows("9 just w apart", x, 6, 0, 0, 1003, 3, 0, 2003, 999, 0, 1004, 999, 0, 2004);
+    }
+
     private static void promise9JoinWithItself() {
         OnePassJudge x = with(0, 5, 1, 7, 0, 5, 2, 8, 0, 6, 1, 9, 0, 5, 1, -1);
         x.read(0);
@@ -384,6 +401,25 @@ public final class OperatorsTest {
         Due.is("9 of q that is UNDONE", x.rows(10), UNDONE);
         Due.is("10 no failures", x.count(2), 0);
         joinOf200And201();
+        meetOf202();
+    }
+
+    private static void meetOf202() {
+        OnePassJudge x = new OnePassJudge();
+        for (int i = 0; i < 50; i++) {
+            x.row(0, 5, 0, i, false);
+        }
+        x.row(1, 0, 0, 0, false);
+        x.row(1, 9, 0, 0, false);
+        x.read(0);
+        x.read(1);
+        x.meet(0, 0);
+        x.meet(2, 2);
+        x.meet(1, 3);
+        x.meet(3, 1);
+        Due.is("10 judge()", x.judge(), 4);
+        Due.is("10 too many before the last of p", x.rows(4), UNDONE);
+        Due.is("10 too many before the last of q", x.rows(5), UNDONE);
     }
 
     private static void joinOf200And201() {
