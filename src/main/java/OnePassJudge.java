@@ -618,8 +618,8 @@ public final class OnePassJudge {
     }
 
     /**
-     * The definitions of the OPERATORS that are of others. Each answers whether the rows had room. They lean on the rows of every
-     * OPERATOR rising by TIME: READ, SPANS, JOIN, MEET and FALLS make them so, the others leave them so.
+     * The definitions of the OPERATORS that are of others. Each answers whether the rows had room. They lean on the
+     * rows of every OPERATOR rising by TIME: READ, SPANS, JOIN, MEET and FALLS make them so, the others leave them so.
      */
     private static final class Pass {
         private final Span span = new Span();

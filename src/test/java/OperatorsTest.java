@@ -32,17 +32,8 @@ public final class OperatorsTest {
         Due.end();
     }
 
-    /** An object with the rows (source, time, key, value), .. */
-    private static OnePassJudge with(int... rows) {
-        OnePassJudge x = new OnePassJudge();
-        for (int i = 0; i + 3 < rows.length; i += 4) {
-            Due.is("row", x.row(rows[i], rows[i + 1], rows[i + 2], rows[i + 3], false), i / 4);
-        }
-        return x;
-    }
-
     private static void promise6Read() {
-        OnePassJudge x = with(0, 9, 1, 1, 1, 5, 2, 2, 0, 3, 3, 3, 0, 9, 0, 4, 2, 0, 5, 5, 0, 3, 4, 6);
+        OnePassJudge x = Made.with(0, 9, 1, 1, 1, 5, 2, 2, 0, 3, 3, 3, 0, 9, 0, 4, 2, 0, 5, 5, 0, 3, 4, 6);
         Due.is("6 read(-1)", x.read(-1), BAD);
         Due.is("6 read(3)", x.read(3), BAD);
         Due.is("6 read(least)", x.read(LEAST), BAD);
@@ -88,7 +79,7 @@ public final class OperatorsTest {
     }
 
     private static void promises6To12RefusalsChangeNothing() {
-        OnePassJudge x = with(0, 1, 1, 1);
+        OnePassJudge x = Made.with(0, 1, 1, 1);
         x.read(0);
         x.judge();
         x.compare(0, 0);
@@ -124,7 +115,7 @@ public final class OperatorsTest {
     }
 
     private static void promise7Functions() {
-        OnePassJudge x = with(0, 1, 1, 300, 0, 2, 2, -7, 0, 3, 3, 7, 0, 4, 4, 0);
+        OnePassJudge x = Made.with(0, 1, 1, 300, 0, 2, 2, -7, 0, 3, 3, 7, 0, 4, 4, 0);
         x.item(7, -77);
         x.item(0, 10);
         x.read(0);
@@ -150,7 +141,7 @@ public final class OperatorsTest {
     }
 
     private static void promise7FunctionsWrap() {
-        OnePassJudge x = with(0, 1, 1, -2);
+        OnePassJudge x = Made.with(0, 1, 1, -2);
         x.read(0);
         x.each(0, 0, 1, 1 << 30);
         x.each(0, 1, 1, 1 << 30);
@@ -178,7 +169,7 @@ public final class OperatorsTest {
     }
 
     private static void promise7KeepAndRekey() {
-        OnePassJudge x = with(0, 1, 1, 300, 0, 2, 2, -7, 0, 3, 3, 7, 0, 4, 4, 0, 0, 5, 5, -6);
+        OnePassJudge x = Made.with(0, 1, 1, 300, 0, 2, 2, -7, 0, 3, 3, 7, 0, 4, 4, 0, 0, 5, 5, -6);
         x.read(0);
         x.each(1, 0, 0, 0);
         x.each(1, 0, 5, 0);
@@ -196,7 +187,7 @@ public final class OperatorsTest {
     }
 
     private static void promise7FailuresAreLeftOut() {
-        OnePassJudge x = with(0, 1, 1, 8, 0, 2, 2, -1, 0, 3, 3, 7, 0, 4, 4, 0);
+        OnePassJudge x = Made.with(0, 1, 1, 8, 0, 2, 2, -1, 0, 3, 3, 7, 0, 4, 4, 0);
         x.item(7, 5);
         x.item(0, -1);
         x.read(0);
@@ -241,7 +232,7 @@ public final class OperatorsTest {
     }
 
     private static void promise8Spans() {
-        OnePassJudge x = with(0, 19, 3, 4, 0, 10, 3, 9, 0, 10, 0, -5, 0, 15, 3, -6, 0, 9, 3, 1, 0, 40, 5, 2,
+        OnePassJudge x = Made.with(0, 19, 3, 4, 0, 10, 3, 9, 0, 10, 0, -5, 0, 15, 3, -6, 0, 9, 3, 1, 0, 40, 5, 2,
                 0, 0, 3, 8, 0, 15, 3, 5);
         x.read(0);
         for (int how = 0; how < 5; how++) {
@@ -262,7 +253,7 @@ public final class OperatorsTest {
     }
 
     private static void promise8SpansOfSpans() {
-        OnePassJudge x = with(0, 999, 0, 1_000_000, 0, 998, 0, 1_000_000, 0, 1, 2, 3);
+        OnePassJudge x = Made.with(0, 999, 0, 1_000_000, 0, 998, 0, 1_000_000, 0, 1, 2, 3);
         x.read(0);
         x.spans(0, 998, 0);
         x.spans(1, 1000, 1);
@@ -296,7 +287,7 @@ public final class OperatorsTest {
     }
 
     private static void promise9Join() {
-        OnePassJudge x = with(0, 10, 1, 1, 0, 11, 1, 2, 0, 11, 2, 3, 0, 20, 1, 4,
+        OnePassJudge x = Made.with(0, 10, 1, 1, 0, 11, 1, 2, 0, 11, 2, 3, 0, 20, 1, 4,
                 1, 12, 1, 5, 1, 8, 1, 6, 1, 12, 1, 7, 1, 14, 2, 8, 1, 23, 1, -9, 1, 11, 3, 10);
         x.read(0);
         x.read(1);
@@ -317,7 +308,7 @@ public final class OperatorsTest {
     }
 
     private static void promise9JoinOfTheLeast() {
-        OnePassJudge x = with(0, 0, 0, 1, 0, 3, 0, 2, 1, 0, 0, 3, 1, 1000 - 1, 0, 4);
+        OnePassJudge x = Made.with(0, 0, 0, 1, 0, 3, 0, 2, 1, 0, 0, 3, 1, 1000 - 1, 0, 4);
         x.read(0);
         x.read(1);
         x.read(2);
@@ -333,7 +324,7 @@ public final class OperatorsTest {
     }
 
     private static void promise9JoinWithItself() {
-        OnePassJudge x = with(0, 5, 1, 7, 0, 5, 2, 8, 0, 6, 1, 9, 0, 5, 1, -1);
+        OnePassJudge x = Made.with(0, 5, 1, 7, 0, 5, 2, 8, 0, 6, 1, 9, 0, 5, 1, -1);
         x.read(0);
         x.join(0, 0, 0);
         x.join(0, 0, 1);
@@ -349,7 +340,7 @@ public final class OperatorsTest {
     }
 
     private static void promise10Meet() {
-        OnePassJudge x = with(0, 5, 1, 1, 0, 5, 1, 2, 0, 9, 2, 3, 1, 5, 1, 4, 1, 0, 0, 5, 1, 9, 5, 6, 1, 12, 5, 7);
+        OnePassJudge x = Made.with(0, 5, 1, 1, 0, 5, 1, 2, 0, 9, 2, 3, 1, 5, 1, 4, 1, 0, 0, 5, 1, 9, 5, 6, 1, 12, 5, 7);
         Due.is("10 meet of none", x.meet(0, 0), BAD);
         x.read(0);
         int[] bad = {-1, 1, LEAST, MOST};
@@ -460,7 +451,7 @@ public final class OperatorsTest {
     }
 
     private static void promise11Falls() {
-        OnePassJudge x = with(0, 1, 1, 50, 0, 2, 0, 60, 0, 10, 0, 40, 0, 10, 1, 20, 0, 10, 1, 20, 0, 11, 1, 30,
+        OnePassJudge x = Made.with(0, 1, 1, 50, 0, 2, 0, 60, 0, 10, 0, 40, 0, 10, 1, 20, 0, 10, 1, 20, 0, 11, 1, 30,
                 0, 20, 1, 25, 0, 31, 1, 24, 0, 31, 1, -24);
         x.read(0);
         x.falls(0, 10);
@@ -476,7 +467,7 @@ public final class OperatorsTest {
     }
 
     private static void fallsOfLongs() {
-        OnePassJudge x = with(0, 1, 0, 1, 0, 2, 0, -1);
+        OnePassJudge x = Made.with(0, 1, 0, 1, 0, 2, 0, -1);
         x.read(0);
         x.each(0, 0, 1, 1 << 30);
         x.each(0, 1, 1, 1 << 30);
@@ -487,7 +478,7 @@ public final class OperatorsTest {
     }
 
     private static void promise12First() {
-        OnePassJudge x = with(0, 1, 1, 1, 0, 2, 0, 2, 0, 3, 1, 3, 0, 4, 1, 4, 0, 5, 5, 5, 0, 6, 0, 6);
+        OnePassJudge x = Made.with(0, 1, 1, 1, 0, 2, 0, 2, 0, 3, 1, 3, 0, 4, 1, 4, 0, 5, 5, 5, 0, 6, 0, 6);
         Due.is("12 first of none", x.first(0, 0), BAD);
         x.read(0);
         int[] badP = {-1, 1, LEAST, MOST};
@@ -510,7 +501,7 @@ public final class OperatorsTest {
     }
 
     private static void promise13Drop() {
-        OnePassJudge x = with(0, 1, 1, 1);
+        OnePassJudge x = Made.with(0, 1, 1, 1);
         Due.is("13 drop()", x.drop(), STATE);
         x.read(0);
         x.each(0, 0, 2, 0);
