@@ -35,6 +35,18 @@ final class Due {
         is(what + ": told(" + op + ", " + n + ", 0)", x.told(op, n, 0), OnePassJudge.NONE);
     }
 
+    /** Holds the answer of compare(0, as), and those of where() behind it. */
+    static void compared(String what, OnePassJudge x, int as, int answer, int place, int time, int key) {
+        is(what + ": compare(0, " + as + ")", x.compare(0, as), answer);
+        is(what + ": where(0)", x.where(0), place);
+        is(what + ": where(1)", x.where(1), time);
+        is(what + ": where(2)", x.where(2), key);
+    }
+
+    static void alike(String what, OnePassJudge x, int as) {
+        compared(what, x, as, 0, OnePassJudge.NONE, OnePassJudge.NONE, OnePassJudge.NONE);
+    }
+
     static void end() {
         System.out.println(wrong == 0 ? "all answers are as due" : wrong + " answers are not as due");
         if (wrong != 0) {

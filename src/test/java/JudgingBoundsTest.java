@@ -41,34 +41,6 @@ public final class JudgingBoundsTest {
         Due.end();
     }
 
-    /** READ 0 of the rows (1, 0, 1), (2, 0, 2), (2, 1, 3), (4, 1, 4), (time, key, value), JUDGED. */
-    private static OnePassJudge four() {
-        OnePassJudge x = Made.with(0, 1, 0, 1, 0, 2, 0, 2, 0, 2, 1, 3, 0, 4, 1, 4);
-        Due.is("read(0)", x.read(0), 0);
-        Due.is("judge()", x.judge(), 1);
-        return x;
-    }
-
-    /** What is TOLD of OPERATOR 0 is (time, key, value), .. then. */
-    private static void tell(OnePassJudge x, long... rows) {
-        x.untell(0);
-        for (int i = 0; i + 2 < rows.length; i += 3) {
-            Due.is("tell", x.tell(0, (int) rows[i], (int) rows[i + 1], rows[i + 2]), i / 3 + 1);
-        }
-    }
-
-    private static void due(String what, OnePassJudge x, int as, int answer, int place, int time, int key) {
-        Due.is(what + ": compare(0, " + as + ")", x.compare(0, as), answer);
-        int[] parts = {place, time, key};
-        for (int i = 0; i < 3; i++) {
-            Due.is(what + ": where(" + i + ")", x.where(i), parts[i]);
-        }
-    }
-
-    private static void alike(String what, OnePassJudge x, int as) {
-        due(what, x, as, 0, NONE, NONE, NONE);
-    }
-
     private static void judgedStaysWhateverIsTold() {
         String[] calls = {"row 0 0 0 0 0", "late 0 1", "item 0 5", "wipe", "tell 0 1 0 1", "untell 0", "compare 0 0",
             "compare 1 1", "count 0", "where 0", "read 3", "each 3 0 0 0", "spans 0 0 0", "join 0 2 0", "meet 2 0",
@@ -93,7 +65,7 @@ public final class JudgingBoundsTest {
             "meet 0 0", "falls 0 0", "first 0 0"};
         for (String call : calls) {
             Call c = Call.of(call);
-            OnePassJudge x = four();
+            OnePassJudge x = Made.judgedFour();
             Due.is("21 compare", x.compare(0, 0), 1);
             Due.is(c.toString(), c.on(x), 1);
             nothingIsJudged("3 behind " + c, x);
@@ -104,7 +76,7 @@ public final class JudgingBoundsTest {
     }
 
     private static void nothingIsJudgedWhenAnOperatorGoes() {
-        OnePassJudge x = four();
+        OnePassJudge x = Made.judgedFour();
         x.read(1);
         x.judge();
         Due.is("21 compare", x.compare(0, 0), 1);
@@ -274,7 +246,7 @@ public final class JudgingBoundsTest {
     }
 
     private static void tellAtItsBounds() {
-        OnePassJudge x = four();
+        OnePassJudge x = Made.judgedFour();
         Due.is("19 TIME 0, KEY 0", x.tell(0, 0, 0, 0), 1);
         Due.is("19 TIME 20000, KEY 5", x.tell(0, 20_000, 5, 0), 2);
         Due.is("19 TIME 20001", x.tell(0, 20_001, 5, 0), BAD);
@@ -284,9 +256,9 @@ public final class JudgingBoundsTest {
         Due.is("20 untell(0)", x.untell(0), 2);
         x.wipe();
         x.judge();
-        tell(x, 20_000, 5, 1);
-        due("22 ORDER", x, 0, 2, 0, 20_000, 5);
-        due("22 SETS", x, 1, 2, -4, 20_000, 5);
+        Made.tell(x, 20_000, 5, 1);
+        Due.compared("22 ORDER", x, 0, 2, 0, 20_000, 5);
+        Due.compared("22 SETS", x, 1, 2, -4, 20_000, 5);
     }
 
     private static void fortyOfEach() {
@@ -346,39 +318,39 @@ public final class JudgingBoundsTest {
         OnePassJudge x = new OnePassJudge();
         x.read(0);
         x.judge();
-        alike("21 none and none", x, 0);
-        tell(x, 7, 3, 0);
-        due("21 one and none", x, 0, 2, 0, 7, 3);
-        OnePassJudge y = four();
-        due("21 none and four", y, 0, 1, 0, 1, 0);
+        Due.alike("21 none and none", x, 0);
+        Made.tell(x, 7, 3, 0);
+        Due.compared("21 one and none", x, 0, 2, 0, 7, 3);
+        OnePassJudge y = Made.judgedFour();
+        Due.compared("21 none and four", y, 0, 1, 0, 1, 0);
     }
 
     private static void orderAtTheFirstAndTheLast() {
-        OnePassJudge x = four();
-        tell(x, 1, 0, 9, 2, 0, 2, 2, 1, 3, 4, 1, 4);
-        due("21 the first differs", x, 0, 3, 0, 1, 0);
-        tell(x, 1, 0, 1, 2, 0, 2, 2, 1, 3, 4, 1, 9);
-        due("21 the last differs", x, 0, 3, 3, 4, 1);
-        tell(x, 1, 0, 1, 2, 0, 2, 2, 1, 3);
-        due("21 the last lacks", x, 0, 1, 3, 4, 1);
-        tell(x, 1, 0, 1, 2, 0, 2, 2, 1, 3, 4, 1, 4, 4, 1, 4);
-        due("21 one more than the last", x, 0, 2, 4, 4, 1);
-        tell(x, 1, 0, 9, 2, 0, 2, 2, 1, 3, 4, 1, 4, 4, 1, 4);
-        due("21 one that differs, before one too many", x, 0, 3, 0, 1, 0);
-        tell(x, 1, 0, 1, 2, 0, 9);
-        due("21 one that differs, before one that lacks", x, 0, 3, 1, 2, 0);
+        OnePassJudge x = Made.judgedFour();
+        Made.tell(x, 1, 0, 9, 2, 0, 2, 2, 1, 3, 4, 1, 4);
+        Due.compared("21 the first differs", x, 0, 3, 0, 1, 0);
+        Made.tell(x, 1, 0, 1, 2, 0, 2, 2, 1, 3, 4, 1, 9);
+        Due.compared("21 the last differs", x, 0, 3, 3, 4, 1);
+        Made.tell(x, 1, 0, 1, 2, 0, 2, 2, 1, 3);
+        Due.compared("21 the last lacks", x, 0, 1, 3, 4, 1);
+        Made.tell(x, 1, 0, 1, 2, 0, 2, 2, 1, 3, 4, 1, 4, 4, 1, 4);
+        Due.compared("21 one more than the last", x, 0, 2, 4, 4, 1);
+        Made.tell(x, 1, 0, 9, 2, 0, 2, 2, 1, 3, 4, 1, 4, 4, 1, 4);
+        Due.compared("21 one that differs, before one too many", x, 0, 3, 0, 1, 0);
+        Made.tell(x, 1, 0, 1, 2, 0, 9);
+        Due.compared("21 one that differs, before one that lacks", x, 0, 3, 1, 2, 0);
     }
 
     private static void orderOfEachPart() {
-        OnePassJudge x = four();
-        tell(x, 1, 0, 1, 3, 0, 2, 2, 1, 3, 4, 1, 4);
-        due("21 the TIME alone", x, 0, 3, 1, 2, 0);
-        tell(x, 1, 0, 1, 2, 1, 2, 2, 1, 3, 4, 1, 4);
-        due("21 the KEY alone", x, 0, 3, 1, 2, 0);
-        tell(x, 1, 0, 1, 2, 0, 1, 2, 1, 3, 4, 1, 4);
-        due("21 the VALUE alone", x, 0, 3, 1, 2, 0);
-        tell(x, 1, 0, 1, 2, 0, 2, 2, 1, 3, 4, 1, 4);
-        alike("21 none of them", x, 0);
+        OnePassJudge x = Made.judgedFour();
+        Made.tell(x, 1, 0, 1, 3, 0, 2, 2, 1, 3, 4, 1, 4);
+        Due.compared("21 the TIME alone", x, 0, 3, 1, 2, 0);
+        Made.tell(x, 1, 0, 1, 2, 1, 2, 2, 1, 3, 4, 1, 4);
+        Due.compared("21 the KEY alone", x, 0, 3, 1, 2, 0);
+        Made.tell(x, 1, 0, 1, 2, 0, 1, 2, 1, 3, 4, 1, 4);
+        Due.compared("21 the VALUE alone", x, 0, 3, 1, 2, 0);
+        Made.tell(x, 1, 0, 1, 2, 0, 2, 2, 1, 3, 4, 1, 4);
+        Due.alike("21 none of them", x, 0);
     }
 
     /** READ 0 of n rows at the TIMES 0, 1, .., of KEY 0, with the VALUES 0, 1, ..; m of them are TOLD. */
@@ -396,19 +368,19 @@ public final class JudgingBoundsTest {
     }
 
     private static void orderOfFortyAndMore() {
-        alike("21 40 and 40", toldOf(40, 40), 0);
-        due("21 40 of 41", toldOf(41, 40), 0, 1, 40, 40, 0);
-        due("21 40 of 60", toldOf(60, 40), 0, 1, 40, 40, 0);
-        due("21 39 of 40", toldOf(40, 39), 0, 1, 39, 39, 0);
-        due("21 40 and 39", told40And39(), 0, 2, 39, 39, 5);
+        Due.alike("21 40 and 40", toldOf(40, 40), 0);
+        Due.compared("21 40 of 41", toldOf(41, 40), 0, 1, 40, 40, 0);
+        Due.compared("21 40 of 60", toldOf(60, 40), 0, 1, 40, 40, 0);
+        Due.compared("21 39 of 40", toldOf(40, 39), 0, 1, 39, 39, 0);
+        Due.compared("21 40 and 39", told40And39(), 0, 2, 39, 39, 5);
     }
 
     private static void setsOfFortyAndMore() {
-        alike("21 40 and 40", toldOf(40, 40), 1);
-        due("21 40 of 41", toldOf(41, 40), 1, 1, -4, 40, 0);
-        due("21 40 of 60", toldOf(60, 40), 1, 1, -4, 40, 0);
-        due("21 39 of 40", toldOf(40, 39), 1, 1, -4, 39, 0);
-        due("21 40 and 39", told40And39(), 1, 2, -4, 39, 5);
+        Due.alike("21 40 and 40", toldOf(40, 40), 1);
+        Due.compared("21 40 of 41", toldOf(41, 40), 1, 1, -4, 40, 0);
+        Due.compared("21 40 of 60", toldOf(60, 40), 1, 1, -4, 40, 0);
+        Due.compared("21 39 of 40", toldOf(40, 39), 1, 1, -4, 39, 0);
+        Due.compared("21 40 and 39", told40And39(), 1, 2, -4, 39, 5);
     }
 
     private static OnePassJudge told40And39() {
@@ -421,33 +393,33 @@ public final class JudgingBoundsTest {
         OnePassJudge x = new OnePassJudge();
         x.read(0);
         x.judge();
-        alike("21 none and none", x, 1);
-        tell(x, 7, 3, 0);
-        due("21 one and none", x, 1, 2, -4, 7, 3);
-        tell(x, 7, 3, 0, 7, 2, 0, 6, 5, 0);
-        due("21 the least TIME", x, 1, 2, -4, 6, 5);
-        tell(x, 7, 3, 0, 7, 2, 0);
-        due("21 the least KEY", x, 1, 2, -4, 7, 2);
-        OnePassJudge y = four();
-        due("21 none and four", y, 1, 1, -4, 1, 0);
+        Due.alike("21 none and none", x, 1);
+        Made.tell(x, 7, 3, 0);
+        Due.compared("21 one and none", x, 1, 2, -4, 7, 3);
+        Made.tell(x, 7, 3, 0, 7, 2, 0, 6, 5, 0);
+        Due.compared("21 the least TIME", x, 1, 2, -4, 6, 5);
+        Made.tell(x, 7, 3, 0, 7, 2, 0);
+        Due.compared("21 the least KEY", x, 1, 2, -4, 7, 2);
+        OnePassJudge y = Made.judgedFour();
+        Due.compared("21 none and four", y, 1, 1, -4, 1, 0);
     }
 
     private static void setsAreOfTheLeastTimeThenKey() {
-        OnePassJudge x = four();
-        tell(x, 4, 1, 9, 2, 1, 9, 2, 0, 9, 1, 0, 9);
-        due("21 all differ", x, 1, 3, -4, 1, 0);
-        tell(x, 4, 1, 9, 2, 1, 9, 2, 0, 9, 1, 0, 1);
-        due("21 all but the first", x, 1, 3, -4, 2, 0);
-        tell(x, 4, 1, 9, 2, 1, 9, 2, 0, 2, 1, 0, 1);
-        due("21 KEY 1 of that TIME", x, 1, 3, -4, 2, 1);
-        tell(x, 4, 1, 9, 2, 1, 3, 2, 0, 2, 1, 0, 1);
-        due("21 the last", x, 1, 3, -4, 4, 1);
-        tell(x, 3, 5, 0, 2, 1, 3, 2, 0, 2, 1, 0, 1);
-        due("21 one too many before one that lacks", x, 1, 2, -4, 3, 5);
-        tell(x, 5, 0, 0, 2, 1, 3, 2, 0, 2, 1, 0, 1);
-        due("21 one that lacks before one too many", x, 1, 1, -4, 4, 1);
-        tell(x, 0, 0, 0, 4, 1, 4, 2, 1, 3, 2, 0, 2, 1, 0, 1);
-        due("21 TIME 0 is too many", x, 1, 2, -4, 0, 0);
+        OnePassJudge x = Made.judgedFour();
+        Made.tell(x, 4, 1, 9, 2, 1, 9, 2, 0, 9, 1, 0, 9);
+        Due.compared("21 all differ", x, 1, 3, -4, 1, 0);
+        Made.tell(x, 4, 1, 9, 2, 1, 9, 2, 0, 9, 1, 0, 1);
+        Due.compared("21 all but the first", x, 1, 3, -4, 2, 0);
+        Made.tell(x, 4, 1, 9, 2, 1, 9, 2, 0, 2, 1, 0, 1);
+        Due.compared("21 KEY 1 of that TIME", x, 1, 3, -4, 2, 1);
+        Made.tell(x, 4, 1, 9, 2, 1, 3, 2, 0, 2, 1, 0, 1);
+        Due.compared("21 the last", x, 1, 3, -4, 4, 1);
+        Made.tell(x, 3, 5, 0, 2, 1, 3, 2, 0, 2, 1, 0, 1);
+        Due.compared("21 one too many before one that lacks", x, 1, 2, -4, 3, 5);
+        Made.tell(x, 5, 0, 0, 2, 1, 3, 2, 0, 2, 1, 0, 1);
+        Due.compared("21 one that lacks before one too many", x, 1, 1, -4, 4, 1);
+        Made.tell(x, 0, 0, 0, 4, 1, 4, 2, 1, 3, 2, 0, 2, 1, 0, 1);
+        Due.compared("21 TIME 0 is too many", x, 1, 2, -4, 0, 0);
     }
 
     /** At TIME 3, KEY 3 are the VALUES 5, 5, 7. */
@@ -455,20 +427,20 @@ public final class JudgingBoundsTest {
         OnePassJudge x = Made.with(0, 3, 3, 5, 0, 3, 3, 7, 0, 3, 3, 5);
         x.read(0);
         x.judge();
-        tell(x, 3, 3, 5, 3, 3, 5, 3, 3, 7);
-        alike("21 each as often", x, 1);
-        tell(x, 3, 3, 7, 3, 3, 5, 3, 3, 7);
-        due("21 as many, of other VALUES", x, 1, 3, -4, 3, 3);
-        tell(x, 3, 3, 8, 3, 3, 9);
-        due("21 fewer, of other VALUES", x, 1, 1, -4, 3, 3);
-        tell(x, 3, 3, 5, 3, 3, 7);
-        due("21 fewer, each once", x, 1, 1, -4, 3, 3);
-        tell(x, 3, 3, 7, 3, 3, 7, 3, 3, 7, 3, 3, 7);
-        due("21 more, of one VALUE", x, 1, 2, -4, 3, 3);
-        tell(x, 3, 3, 5, 3, 3, 7, 3, 3, 5, 3, 3, 5);
-        due("21 more, one too often", x, 1, 2, -4, 3, 3);
-        tell(x, 3, 3, 0, 3, 3, 0, 3, 3, 0, 2, 5, 0);
-        due("21 a lesser TIME before all that", x, 1, 2, -4, 2, 5);
+        Made.tell(x, 3, 3, 5, 3, 3, 5, 3, 3, 7);
+        Due.alike("21 each as often", x, 1);
+        Made.tell(x, 3, 3, 7, 3, 3, 5, 3, 3, 7);
+        Due.compared("21 as many, of other VALUES", x, 1, 3, -4, 3, 3);
+        Made.tell(x, 3, 3, 8, 3, 3, 9);
+        Due.compared("21 fewer, of other VALUES", x, 1, 1, -4, 3, 3);
+        Made.tell(x, 3, 3, 5, 3, 3, 7);
+        Due.compared("21 fewer, each once", x, 1, 1, -4, 3, 3);
+        Made.tell(x, 3, 3, 7, 3, 3, 7, 3, 3, 7, 3, 3, 7);
+        Due.compared("21 more, of one VALUE", x, 1, 2, -4, 3, 3);
+        Made.tell(x, 3, 3, 5, 3, 3, 7, 3, 3, 5, 3, 3, 5);
+        Due.compared("21 more, one too often", x, 1, 2, -4, 3, 3);
+        Made.tell(x, 3, 3, 0, 3, 3, 0, 3, 3, 0, 2, 5, 0);
+        Due.compared("21 a lesser TIME before all that", x, 1, 2, -4, 2, 5);
     }
 
     private static void setsOfLongs() {
@@ -493,11 +465,11 @@ public final class JudgingBoundsTest {
     }
 
     private static void whereOfTheJudgedRow() {
-        OnePassJudge x = four();
-        tell(x, 1, 0, 1, 9, 5, 2);
-        due("22 of the JUDGED row", x, 0, 3, 1, 2, 0);
-        tell(x, 1, 0, 1, 2, 0, 2, 2, 1, 3, 4, 1, 4, 20_000, 5, 0);
-        due("22 of the TOLD one, if there is none", x, 0, 2, 4, 20_000, 5);
+        OnePassJudge x = Made.judgedFour();
+        Made.tell(x, 1, 0, 1, 9, 5, 2);
+        Due.compared("22 of the JUDGED row", x, 0, 3, 1, 2, 0);
+        Made.tell(x, 1, 0, 1, 2, 0, 2, 2, 1, 3, 4, 1, 4, 20_000, 5, 0);
+        Due.compared("22 of the TOLD one, if there is none", x, 0, 2, 4, 20_000, 5);
         Due.is("22 where(-1)", x.where(-1), BAD);
         Due.is("22 where(3)", x.where(3), BAD);
     }
@@ -513,12 +485,12 @@ public final class JudgingBoundsTest {
         Due.is("22 not compared", x.where(2), NONE);
         x.compare(0, 2);
         Due.is("22 refused", x.where(2), NONE);
-        alike("22 alike", x, 0);
-        alike("22 alike", x, 1);
+        Due.alike("22 alike", x, 0);
+        Due.alike("22 alike", x, 1);
     }
 
     private static void whereOfTheLatest() {
-        OnePassJudge x = four();
+        OnePassJudge x = Made.judgedFour();
         x.read(1);
         x.judge();
         Due.is("21 compare", x.compare(0, 0), 1);

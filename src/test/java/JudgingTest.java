@@ -31,17 +31,6 @@ public final class JudgingTest {
         Due.end();
     }
 
-    /** READ 0 of the rows (1, 0, 1), (2, 0, 2), (2, 1, 3), (4, 1, 4), (time, key, value). */
-    private static OnePassJudge four() {
-        OnePassJudge x = new OnePassJudge();
-        x.row(0, 1, 0, 1, false);
-        x.row(0, 2, 0, 2, false);
-        x.row(0, 2, 1, 3, false);
-        x.row(0, 4, 1, 4, false);
-        x.read(0);
-        return x;
-    }
-
     /** READ 0 and 1, and JOIN 2 of them, which is UNDONE, and MAP 3 of that. */
     private static OnePassJudge undone() {
         OnePassJudge x = new OnePassJudge();
@@ -141,7 +130,7 @@ public final class JudgingTest {
     }
 
     private static void promises15To18Refusals() {
-        OnePassJudge x = four();
+        OnePassJudge x = Made.four();
         Due.is("15 rows(0)", x.rows(0), STATE);
         Due.is("16 told(0, 0, 0)", x.told(0, 0, 0), STATE);
         Due.is("16 STATE before NONE", x.told(0, 9, 0), STATE);
@@ -186,7 +175,7 @@ public final class JudgingTest {
     }
 
     private static void promise16And17NoSuchRow() {
-        OnePassJudge x = four();
+        OnePassJudge x = Made.four();
         x.judge();
         for (int bad : new int[] {-1, 4, LEAST, MOST}) {
             Due.is("16 told(0, " + bad + ", 0)", x.told(0, bad, 0), NONE);
@@ -207,7 +196,7 @@ public final class JudgingTest {
     }
 
     private static void promise18Fails() {
-        OnePassJudge x = four();
+        OnePassJudge x = Made.four();
         x.item(1, 100);
         x.each(0, 0, 4, 0);
         x.each(0, 1, 4, 0);
@@ -228,7 +217,7 @@ public final class JudgingTest {
     }
 
     private static void promise19Tell() {
-        OnePassJudge x = four();
+        OnePassJudge x = Made.four();
         for (int op : OUTSIDE_OF_ONE) {
             Due.is("19 tell(" + op + ")", x.tell(op, 0, 0, 0), BAD);
         }
@@ -252,7 +241,7 @@ public final class JudgingTest {
     }
 
     private static void promise20Untell() {
-        OnePassJudge x = four();
+        OnePassJudge x = Made.four();
         for (int op : OUTSIDE_OF_ONE) {
             Due.is("20 untell(" + op + ")", x.untell(op), BAD);
         }
@@ -272,7 +261,7 @@ public final class JudgingTest {
     }
 
     private static void promise21Refusals() {
-        OnePassJudge x = four();
+        OnePassJudge x = Made.four();
         Due.is("21 STATE", x.compare(0, 0), STATE);
         Due.is("21 STATE", x.compare(0, 1), STATE);
         for (int round = 0; round < 2; round++) {
@@ -287,77 +276,58 @@ public final class JudgingTest {
         Due.is("21 compare(0, 0)", x.compare(0, 0), 1);
     }
 
-    private static void due(String what, OnePassJudge x, int as, int answer, int place, int time, int key) {
-        Due.is(what + ": compare(0, " + as + ")", x.compare(0, as), answer);
-        Due.is(what + ": where(0)", x.where(0), place);
-        Due.is(what + ": where(1)", x.where(1), time);
-        Due.is(what + ": where(2)", x.where(2), key);
-    }
-
-    private static void alike(String what, OnePassJudge x, int as) {
-        due(what, x, as, 0, NONE, NONE, NONE);
-    }
-
-    /** What is TOLD of OPERATOR 0 is (time, key, value), .. then. */
-    private static void tell(OnePassJudge x, long... rows) {
-        x.untell(0);
-        for (int i = 0; i + 2 < rows.length; i += 3) {
-            Due.is("tell", x.tell(0, (int) rows[i], (int) rows[i + 1], rows[i + 2]), i / 3 + 1);
-        }
-    }
-
     private static void promise21Order() {
-        OnePassJudge x = four();
+        OnePassJudge x = Made.four();
         x.judge();
-        due("21 nothing TOLD", x, 0, 1, 0, 1, 0);
-        tell(x, 1, 0, 1, 2, 0, 2, 2, 1, 3, 4, 1, 4);
-        alike("21", x, 0);
-        tell(x, 1, 0, 1, 2, 0, 2, 2, 1, 3);
-        due("21 too few", x, 0, 1, 3, 4, 1);
-        tell(x, 1, 0, 1, 2, 0, 2, 2, 1, 3, 4, 1, 4, 19_999, 3, 0);
-        due("21 too many", x, 0, 2, 4, 19_999, 3);
-        tell(x, 1, 0, 1, 2, 1, 3, 2, 0, 2, 4, 1, 4);
-        due("21 another order", x, 0, 3, 1, 2, 0);
-        tell(x, 1, 0, 1, 2, 0, 2, 3, 1, 3);
-        due("21 another TIME", x, 0, 3, 2, 2, 1);
-        tell(x, 1, 0, 1, 2, 0, 2, 2, 5, 3);
-        due("21 another KEY", x, 0, 3, 2, 2, 1);
-        tell(x, 1, 0, 1, 2, 0, 2, 2, 1, 3 + (1L << 32));
-        due("21 another VALUE", x, 0, 3, 2, 2, 1);
+        Due.compared("21 nothing TOLD", x, 0, 1, 0, 1, 0);
+        Made.tell(x, 1, 0, 1, 2, 0, 2, 2, 1, 3, 4, 1, 4);
+        Due.alike("21", x, 0);
+        Made.tell(x, 1, 0, 1, 2, 0, 2, 2, 1, 3);
+        Due.compared("21 too few", x, 0, 1, 3, 4, 1);
+        Made.tell(x, 1, 0, 1, 2, 0, 2, 2, 1, 3, 4, 1, 4, 19_999, 3, 0);
+        Due.compared("21 too many", x, 0, 2, 4, 19_999, 3);
+        Made.tell(x, 1, 0, 1, 2, 1, 3, 2, 0, 2, 4, 1, 4);
+        Due.compared("21 another order", x, 0, 3, 1, 2, 0);
+        Made.tell(x, 1, 0, 1, 2, 0, 2, 3, 1, 3);
+        Due.compared("21 another TIME", x, 0, 3, 2, 2, 1);
+        Made.tell(x, 1, 0, 1, 2, 0, 2, 2, 5, 3);
+        Due.compared("21 another KEY", x, 0, 3, 2, 2, 1);
+        Made.tell(x, 1, 0, 1, 2, 0, 2, 2, 1, 3 + (1L << 32));
+        Due.compared("21 another VALUE", x, 0, 3, 2, 2, 1);
         x.wipe();
         x.judge();
-        due("21 none is JUDGED to be there", x, 0, 2, 0, 1, 0);
-        tell(x);
-        alike("21 none and none", x, 0);
+        Due.compared("21 none is JUDGED to be there", x, 0, 2, 0, 1, 0);
+        Made.tell(x);
+        Due.alike("21 none and none", x, 0);
     }
 
     private static void promise21Sets() {
-        OnePassJudge x = four();
+        OnePassJudge x = Made.four();
         x.judge();
-        due("21 nothing TOLD", x, 1, 1, -4, 1, 0);
-        tell(x, 4, 1, 4, 2, 1, 3, 2, 0, 2, 1, 0, 1);
-        alike("21 any order", x, 1);
-        tell(x, 4, 1, 4, 2, 0, 2, 1, 0, 1);
-        due("21 one lacks", x, 1, 1, -4, 2, 1);
-        tell(x, 4, 1, 4, 2, 1, 3, 2, 0, 2, 1, 0, 1, 2, 0, 2);
-        due("21 one too many", x, 1, 2, -4, 2, 0);
-        tell(x, 4, 1, 4, 2, 1, 9, 2, 0, 2, 1, 0, 1);
-        due("21 another VALUE", x, 1, 3, -4, 2, 1);
-        tell(x, 4, 1, 4, 2, 1, 3, 2, 0, 2, 1, 5, 1);
-        due("21 another KEY: the least lacks", x, 1, 1, -4, 1, 0);
-        tell(x, 4, 1, 4, 2, 1, 3, 2, 0, 2, 0, 5, 1);
-        due("21 another TIME: the least is too many", x, 1, 2, -4, 0, 5);
-        tell(x, 4, 0, 4, 2, 1, 3, 2, 0, 2, 1, 0, 1);
-        due("21 a lesser KEY is too many", x, 1, 2, -4, 4, 0);
-        tell(x, 4, 1, 4, 2, 1, 3, 2, 0, 2, 1, 0, 1, 4, 2, 0);
-        due("21 one behind the last", x, 1, 2, -4, 4, 2);
-        tell(x, 4, 1, 8, 2, 1, 9);
-        due("21 the least of many", x, 1, 1, -4, 1, 0);
+        Due.compared("21 nothing TOLD", x, 1, 1, -4, 1, 0);
+        Made.tell(x, 4, 1, 4, 2, 1, 3, 2, 0, 2, 1, 0, 1);
+        Due.alike("21 any order", x, 1);
+        Made.tell(x, 4, 1, 4, 2, 0, 2, 1, 0, 1);
+        Due.compared("21 one lacks", x, 1, 1, -4, 2, 1);
+        Made.tell(x, 4, 1, 4, 2, 1, 3, 2, 0, 2, 1, 0, 1, 2, 0, 2);
+        Due.compared("21 one too many", x, 1, 2, -4, 2, 0);
+        Made.tell(x, 4, 1, 4, 2, 1, 9, 2, 0, 2, 1, 0, 1);
+        Due.compared("21 another VALUE", x, 1, 3, -4, 2, 1);
+        Made.tell(x, 4, 1, 4, 2, 1, 3, 2, 0, 2, 1, 5, 1);
+        Due.compared("21 another KEY: the least lacks", x, 1, 1, -4, 1, 0);
+        Made.tell(x, 4, 1, 4, 2, 1, 3, 2, 0, 2, 0, 5, 1);
+        Due.compared("21 another TIME: the least is too many", x, 1, 2, -4, 0, 5);
+        Made.tell(x, 4, 0, 4, 2, 1, 3, 2, 0, 2, 1, 0, 1);
+        Due.compared("21 a lesser KEY is too many", x, 1, 2, -4, 4, 0);
+        Made.tell(x, 4, 1, 4, 2, 1, 3, 2, 0, 2, 1, 0, 1, 4, 2, 0);
+        Due.compared("21 one behind the last", x, 1, 2, -4, 4, 2);
+        Made.tell(x, 4, 1, 8, 2, 1, 9);
+        Due.compared("21 the least of many", x, 1, 1, -4, 1, 0);
         x.wipe();
         x.judge();
-        due("21 none is JUDGED to be there", x, 1, 2, -4, 2, 1);
-        tell(x);
-        alike("21 none and none", x, 1);
+        Due.compared("21 none is JUDGED to be there", x, 1, 2, -4, 2, 1);
+        Made.tell(x);
+        Due.alike("21 none and none", x, 1);
     }
 
     private static void promise21SetsAsOften() {
@@ -368,38 +338,38 @@ public final class JudgingTest {
         }
         x.read(0);
         x.judge();
-        tell(x, 3, 3, 7, 3, 3, 5, 3, 3, -5, 3, 3, 5);
-        alike("21 each as often", x, 1);
-        tell(x, 3, 3, 7, 3, 3, 5, 3, 3, -5, 3, 3, 7);
-        due("21 not as often", x, 1, 3, -4, 3, 3);
-        tell(x, 3, 3, 7, 3, 3, 5, 3, 3, -5);
-        due("21 fewer", x, 1, 1, -4, 3, 3);
-        tell(x, 3, 3, 7, 3, 3, 8, 3, 3, 9);
-        due("21 fewer, and others", x, 1, 1, -4, 3, 3);
-        tell(x, 3, 3, 7, 3, 3, 5, 3, 3, -5, 3, 3, 5, 3, 3, 5);
-        due("21 more", x, 1, 2, -4, 3, 3);
-        tell(x, 3, 3, 1, 3, 3, 1, 3, 3, 1, 3, 3, 1, 3, 3, 1);
-        due("21 more, and others", x, 1, 2, -4, 3, 3);
-        tell(x, 3, 3, 7, 3, 3, 5 + (1L << 32), 3, 3, -5, 3, 3, 5);
-        due("21 another long", x, 1, 3, -4, 3, 3);
+        Made.tell(x, 3, 3, 7, 3, 3, 5, 3, 3, -5, 3, 3, 5);
+        Due.alike("21 each as often", x, 1);
+        Made.tell(x, 3, 3, 7, 3, 3, 5, 3, 3, -5, 3, 3, 7);
+        Due.compared("21 not as often", x, 1, 3, -4, 3, 3);
+        Made.tell(x, 3, 3, 7, 3, 3, 5, 3, 3, -5);
+        Due.compared("21 fewer", x, 1, 1, -4, 3, 3);
+        Made.tell(x, 3, 3, 7, 3, 3, 8, 3, 3, 9);
+        Due.compared("21 fewer, and others", x, 1, 1, -4, 3, 3);
+        Made.tell(x, 3, 3, 7, 3, 3, 5, 3, 3, -5, 3, 3, 5, 3, 3, 5);
+        Due.compared("21 more", x, 1, 2, -4, 3, 3);
+        Made.tell(x, 3, 3, 1, 3, 3, 1, 3, 3, 1, 3, 3, 1, 3, 3, 1);
+        Due.compared("21 more, and others", x, 1, 2, -4, 3, 3);
+        Made.tell(x, 3, 3, 7, 3, 3, 5 + (1L << 32), 3, 3, -5, 3, 3, 5);
+        Due.compared("21 another long", x, 1, 3, -4, 3, 3);
     }
 
     private static void promise21TellsAndJudgesApart() {
-        OnePassJudge x = four();
-        tell(x, 1, 0, 1, 2, 0, 2, 2, 1, 3, 4, 1, 4);
+        OnePassJudge x = Made.four();
+        Made.tell(x, 1, 0, 1, 2, 0, 2, 2, 1, 3, 4, 1, 4);
         x.first(0, 1);
         x.judge();
-        alike("21 TOLD before it was JUDGED", x, 0);
+        Due.alike("21 TOLD before it was JUDGED", x, 0);
         Due.is("21 of another", x.compare(1, 0), 1);
         Due.is("21 the VALUES of rows stay as they were", x.value(0, 3), 4);
-        tell(x, 4, 1, 4, 2, 1, 3, 2, 0, 2, 1, 0, 1);
-        alike("21 SETS", x, 1);
-        due("21 SETS leave the order of what is TOLD", x, 0, 3, 0, 1, 0);
+        Made.tell(x, 4, 1, 4, 2, 1, 3, 2, 0, 2, 1, 0, 1);
+        Due.alike("21 SETS", x, 1);
+        Due.compared("21 SETS leave the order of what is TOLD", x, 0, 3, 0, 1, 0);
         Due.rows("21 and of what is JUDGED", x, 0, 1, 0, 1, 2, 0, 2, 2, 1, 3, 4, 1, 4);
     }
 
     private static void promise22Where() {
-        OnePassJudge x = four();
+        OnePassJudge x = Made.four();
         for (int bad : new int[] {-1, 3, LEAST, MOST}) {
             Due.is("22 where(" + bad + ")", x.where(bad), BAD);
         }
@@ -434,9 +404,9 @@ public final class JudgingTest {
     }
 
     private static void promise22WhereStays() {
-        OnePassJudge x = four();
+        OnePassJudge x = Made.four();
         x.judge();
-        tell(x, 1, 0, 1, 2, 0, 2);
+        Made.tell(x, 1, 0, 1, 2, 0, 2);
         x.compare(0, 0);
         x.compare(0, 2);
         x.compare(1, 0);
@@ -459,7 +429,7 @@ public final class JudgingTest {
     }
 
     private static void promise23Count() {
-        OnePassJudge x = four();
+        OnePassJudge x = Made.four();
         for (int bad : new int[] {-1, 3, LEAST, MOST}) {
             Due.is("23 count(" + bad + ")", x.count(bad), BAD);
         }
@@ -482,7 +452,7 @@ public final class JudgingTest {
     }
 
     private static void promise24Clear() {
-        OnePassJudge x = four();
+        OnePassJudge x = Made.four();
         x.item(0, 9);
         x.item(7, 9);
         x.each(0, 0, 2, 0);

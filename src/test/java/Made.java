@@ -12,6 +12,27 @@ final class Made {
         return x;
     }
 
+    /** READ 0 of the rows (1, 0, 1), (2, 0, 2), (2, 1, 3), (4, 1, 4), (time, key, value). */
+    static OnePassJudge four() {
+        OnePassJudge x = with(0, 1, 0, 1, 0, 2, 0, 2, 0, 2, 1, 3, 0, 4, 1, 4);
+        Due.is("read(0)", x.read(0), 0);
+        return x;
+    }
+
+    static OnePassJudge judgedFour() {
+        OnePassJudge x = four();
+        Due.is("judge()", x.judge(), 1);
+        return x;
+    }
+
+    /** What is TOLD of OPERATOR 0 is (time, key, value), .. then. */
+    static void tell(OnePassJudge x, long... rows) {
+        x.untell(0);
+        for (int i = 0; i + 2 < rows.length; i += 3) {
+            Due.is("tell", x.tell(0, (int) rows[i], (int) rows[i + 1], rows[i + 2]), i / 3 + 1);
+        }
+    }
+
     /** Puts n rows of one SOURCE, TIME and KEY behind those that are there, of the VALUES 0, 1, .. */
     static void addAlike(OnePassJudge x, int n, int source, int time, int key) {
         int before = x.count(0);
