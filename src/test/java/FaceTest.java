@@ -91,6 +91,9 @@ public final class FaceTest {
             long fields = java.util.Arrays.stream(c.getDeclaredFields())
                     .filter(f -> !Modifier.isStatic(f.getModifiers())).count();
             Due.yes(c + " has some twenty fields at most", fields <= 20);
+            for (Method method : c.getDeclaredMethods()) {
+                Due.yes(method + " takes seven parameters at most", method.getParameterCount() <= 7);
+            }
         }
     }
 
